@@ -1,0 +1,29 @@
+/** The TOWNS that several tests ask about. */
+final class Streets {
+    private Streets() {
+    }
+
+    /**
+     * Dark comes to 0 in 20, to 1 in 30, to 2 in 40 (by 1; in 45 by lane 2 or its own gate), to 3
+     * in 45, never to 4.
+     */
+    static final String FIVE = "town streets 5;\n"
+            + "lane 0 to 1 takes 10;\n"
+            + "lane 1 to 2 takes 10 muddy 5;\n"
+            + "lane 0 to 2 takes 25;\n"
+            + "lane 2 to 3 takes 5;\n"
+            + "lane 0 to 3 takes 1 barred;\n"
+            + "gate at 0 holds 20;\n"
+            + "gate at 2 holds 45;\n"
+            + "house at 1 wants 30 pays 50 loads 3;\n"
+            + "house at 2 wants 50 pays 20 loads 4;\n"
+            + "house at 3 wants 0 pays 30 loads 5;\n"
+            + "house at 4 wants 10 pays 60 loads 0;\n";
+
+    /** Dark: 3, 8, 13, 18. The first stranger's: 15, 10, 5, 0. The second one's: 15, 10, 5, 10. */
+    static final String ROW = "town streets 4;"
+            + "lane 0 to 1 takes 5;lane 1 to 2 takes 5;lane 2 to 3 takes 5;"
+            + "gate at 0 holds 3;stranger at 3 from 0;stranger at 2 from 5;";
+
+    static final String BARE = "town streets 2;";
+}
