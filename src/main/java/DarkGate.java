@@ -365,12 +365,15 @@ public final class DarkGate {
     }
 
     public int cut(int street, int minute) {
-        int set = cuts(street, minute);
-        return set < 0 ? set : Integer.bitCount(set);
+        if (!isStreet(street) || !isCutMinute(minute)) {
+            return NO_SUCH;
+        }
+        int set = plans.leastCut(town, street, minute);
+        return set == NONE ? NONE : Integer.bitCount(set);
     }
 
     public int cuts(int street, int minute) {
-        if (!isStreet(street) || minute < 0 || minute > MINUTES) {
+        if (!isStreet(street) || !isCutMinute(minute)) {
             return NO_SUCH;
         }
         return plans.leastCut(town, street, minute);
@@ -743,6 +746,10 @@ public final class DarkGate {
         return minute >= 0 && minute <= LAST_MINUTE;
     }
 
+    private static boolean isCutMinute(int minute) {
+        return minute >= 0 && minute <= MINUTES;
+    }
+
     private static boolean isFewLanes(int k) {
         return k >= 0 && k <= 3;
     }
@@ -962,7 +969,8 @@ public final class DarkGate {
                 return isWord("town") ? readsTown() : refuse(CANNOT_STAND);
             }
             if (isWord("lane")) {
-                return draft.lanes < MOST_LANES ? readsLane(draft.lanes) : refuse(TOO_MANY);
+                int lane = draft.lanes;
+                return lane < MOST_LANES ? readsLane(lane) && readsLaneState(lane) : refuse(TOO_MANY);
             }
             if (isWord("gate")) {
                 return draft.gates < MOST_GATES ? readsGate(draft.gates) : refuse(TOO_MANY);
@@ -977,7 +985,7 @@ public final class DarkGate {
         }
 
         private boolean readsTown() {
-            if (!takes("streets", 2, MOST_STREETS)) {
+            if (!takesWord("streets") || !takesNumber(2, MOST_STREETS)) {
                 return false;
             }
             draft.streets = value;
@@ -989,20 +997,20 @@ public final class DarkGate {
                 return false;
             }
             draft.laneFrom[lane] = value;
-            if (!takes("to", 0, draft.streets - 1)) {
+            if (!takesWord("to") || !takesNumber(0, draft.streets - 1)) {
                 return false;
             }
             if (value == draft.laneFrom[lane]) {
                 return refuse(OUT_OF_BOUNDS);
             }
             draft.laneTo[lane] = value;
-            if (!takes("takes", 1, 60)) {
+            if (!takesWord("takes") || !takesNumber(1, 60)) {
                 return false;
             }
             draft.takes[lane] = value;
             draft.muddy[lane] = 0;
             draft.lanes++;
-            return readsLaneState(lane);
+            return true;
         }
 
         private boolean readsLaneState(int lane) {
@@ -1022,11 +1030,11 @@ public final class DarkGate {
         }
 
         private boolean readsGate(int gate) {
-            if (!takes("at", 0, draft.streets - 1)) {
+            if (!takesWord("at") || !takesNumber(0, draft.streets - 1)) {
                 return false;
             }
             draft.gateAt[gate] = value;
-            if (!takes("holds", 0, MOST_HOLD)) {
+            if (!takesWord("holds") || !takesNumber(0, MOST_HOLD)) {
                 return false;
             }
             draft.gateHolds[gate] = value;
@@ -1035,19 +1043,19 @@ public final class DarkGate {
         }
 
         private boolean readsHouse(int house) {
-            if (!takes("at", 0, draft.streets - 1)) {
+            if (!takesWord("at") || !takesNumber(0, draft.streets - 1)) {
                 return false;
             }
             draft.houseAt[house] = value;
-            if (!takes("wants", 0, LAST_MINUTE)) {
+            if (!takesWord("wants") || !takesNumber(0, LAST_MINUTE)) {
                 return false;
             }
             draft.wants[house] = value;
-            if (!takes("pays", 0, LAST_MINUTE)) {
+            if (!takesWord("pays") || !takesNumber(0, LAST_MINUTE)) {
                 return false;
             }
             draft.pays[house] = value;
-            if (!takes("loads", 0, 99)) {
+            if (!takesWord("loads") || !takesNumber(0, 99)) {
                 return false;
             }
             draft.loads[house] = value;
@@ -1056,11 +1064,11 @@ public final class DarkGate {
         }
 
         private boolean readsStranger(int stranger) {
-            if (!takes("at", 0, draft.streets - 1)) {
+            if (!takesWord("at") || !takesNumber(0, draft.streets - 1)) {
                 return false;
             }
             draft.strangerAt[stranger] = value;
-            if (!takes("from", 0, LAST_MINUTE)) {
+            if (!takesWord("from") || !takesNumber(0, LAST_MINUTE)) {
                 return false;
             }
             draft.strangerFrom[stranger] = value;
@@ -1068,9 +1076,9 @@ public final class DarkGate {
             return takesSign();
         }
 
-        private boolean takes(String word, int least, int most) {
+        private boolean takesWord(String word) {
             advance();
-            return isWord(word) ? takesNumber(least, most) : refuse(CANNOT_STAND);
+            return isWord(word) || refuse(CANNOT_STAND);
         }
 
         private boolean takesNumber(int least, int most) {
@@ -1106,8 +1114,7 @@ public final class DarkGate {
             return i >= 0 && i < size && i < MOST_BYTES ? bytes[i] : 0;
         }
 
-        private boolean isBlankAt(int i) {
-            int sign = byteAt(i);
+        private static boolean isBlank(int sign) {
             return sign == 32 || sign == 10;
         }
 
@@ -1121,7 +1128,7 @@ public final class DarkGate {
 
         private void advance() {
             start = stop;
-            while (start < size && isBlankAt(start)) {
+            while (start < size && isBlank(byteAt(start))) {
                 start++;
             }
             stop = start;
@@ -1431,6 +1438,7 @@ public final class DarkGate {
         private final int[] ways = new int[LANE_SETS];
         private int waysKnown = 0;
         private final int[] gladBy = new int[MOST_GATES * MOST_LANES];
+        private final int[] townsBest = new int[MOST_GATES];
 
         /** The greatest GLAD if k at most of some LANES were turned (barred, opened), and by which. */
         void turnLanes(Town town, int lanes, int k) {
@@ -1493,11 +1501,15 @@ public final class DarkGate {
             return false;
         }
 
+        /** Finds GLAD by every pair, and what the town makes of each GATE at best. */
         void weighClerk(Town town) {
             for (int gate = 0; gate < town.gates; gate++) {
+                townsBest[gate] = town.openLanes() == 0 ? gladClerked(town, gate, 0) : 0;
                 for (int lane = 0; lane < town.lanes; lane++) {
                     if (isOpenIn(town, lane)) {
-                        gladBy[gate * MOST_LANES + lane] = gladClerked(town, gate, 1 << lane);
+                        int given = gladClerked(town, gate, 1 << lane);
+                        gladBy[gate * MOST_LANES + lane] = given;
+                        townsBest[gate] = Math.max(townsBest[gate], given);
                     }
                 }
             }
@@ -1532,33 +1544,17 @@ public final class DarkGate {
                     return false;
                 }
             }
-            return given >= townsBest(town, gate);
-        }
-
-        private int townsBest(Town town, int gate) {
-            if (town.openLanes() == 0) {
-                return gladClerked(town, gate, 0);
-            }
-            int most = 0;
-            for (int lane = 0; lane < town.lanes; lane++) {
-                if (isOpenIn(town, lane)) {
-                    most = Math.max(most, gladBy[gate * MOST_LANES + lane]);
-                }
-            }
-            return most;
+            return given >= townsBest[gate];
         }
 
         int clerksGate(Town town) {
-            int gateFound = NONE;
-            int least = 0;
+            int chosen = NONE;
             for (int gate = 0; gate < town.gates; gate++) {
-                int given = townsBest(town, gate);
-                if (gateFound == NONE || given < least) {
-                    least = given;
-                    gateFound = gate;
+                if (chosen == NONE || townsBest[gate] < townsBest[chosen]) {
+                    chosen = gate;
                 }
             }
-            return gateFound;
+            return chosen;
         }
     }
 

@@ -9,6 +9,7 @@ public final class DarkTest {
         strangers();
         frontAndNobody();
         late();
+        asManyAsMayBe();
         Check.close("DarkTest");
     }
 
@@ -102,5 +103,15 @@ public final class DarkTest {
         alone.due("late(0) = 999", "late(3) = 999", "late(4) = -1");
         Check far = Check.with("town streets 2;lane 0 to 1 takes 60;gate at 0 holds 50;stranger at 1 from 999;");
         far.due("late(0) = 999", "late(1) = 889");
+    }
+
+    private static void asManyAsMayBe() {
+        Check x = Check.with(Streets.FULL);
+        x.due("count(0) = 8", "count(1) = 10", "count(2) = 4", "count(3) = 6", "count(4) = 2", "count(6) = 23");
+        x.due("comes(0) = 0", "comes(1) = 10", "comes(2) = 20", "comes(3) = 11", "comes(4) = 1", "comes(5) = 11", "comes(6) = 20",
+                "comes(7) = 10", "full() = 20", "last() = 2", "light(10) = 108", "idle() = 548", "harm(8) = 77", "by(6) = 6",
+                "from(6) = 0", "steps(6) = 2", "by(3) = 3", "steps(3) = 2", "all() = 547", "have(10) = 19", "gladdest() = 0");
+        x.due("owns(0) = 135", "owns(1) = 56", "owns(2) = 64", "front() = 868", "late(0) = 1", "late(7) = 1", "late(2) = 0", "late(6) = -1",
+                "cut(4, 1000) = 4", "cuts(4, 1000) = 792", "carts(50) = 6", "cart(99, 5) = 32", "carts(49) = -1", "wins() = 0", "price() = 100");
     }
 }

@@ -34,7 +34,10 @@ public final class PlansTest {
         Check six = Check.with(Streets.BARE + (house + "99;").repeat(6));
         six.due("carts(99) = 6", "cart(99, 5) = 32", "cart(99, 6) = -1", "carts(98) = -1");
         Check none = Check.with(Streets.BARE);
-        none.due("carts(5) = 0", "cart(5, 0) = -1");
+        none.due("carts(5) = 0", "cart(5, 0) = -1", "carts(1) = 0");
+        // A HOUSE that wants no loads is in a cart all the same.
+        Check light = Check.with(Streets.BARE + house + "0;" + house + "1;" + house + "0;");
+        light.due("carts(1) = 1", "cart(1, 0) = 7");
     }
 
     private static void last() {

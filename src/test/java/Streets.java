@@ -25,5 +25,14 @@ final class Streets {
             + "lane 0 to 1 takes 5;lane 1 to 2 takes 5;lane 2 to 3 takes 5;"
             + "gate at 0 holds 3;stranger at 3 from 0;stranger at 2 from 5;";
 
+    /** As many of all as there may be: a ring of tens, and two lanes across. */
+    static final String FULL = "town streets 8;"
+            + "lane 0 to 1 takes 10;lane 1 to 2 takes 10;lane 2 to 3 takes 10;lane 3 to 4 takes 10;lane 4 to 5 takes 10;"
+            + "lane 5 to 6 takes 10;lane 6 to 7 takes 10;lane 7 to 0 takes 10;lane 0 to 4 takes 1;lane 4 to 0 takes 60;"
+            + "gate at 0 holds 0;gate at 1 holds 50;gate at 2 holds 50;gate at 3 holds 50;"
+            + "house at 0 wants 0 pays 100 loads 50;house at 1 wants 0 pays 100 loads 50;house at 2 wants 0 pays 100 loads 50;"
+            + "house at 3 wants 0 pays 100 loads 50;house at 4 wants 0 pays 100 loads 50;house at 5 wants 0 pays 100 loads 50;"
+            + "stranger at 4 from 0;stranger at 6 from 5;";
+
     static final String BARE = "town streets 2;";
 }
