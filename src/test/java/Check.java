@@ -4,13 +4,25 @@ import java.nio.charset.StandardCharsets;
 import java.util.HashMap;
 import java.util.Map;
 
-/** What the tests share: a DarkGate called by rows of text, and the count of wrong answers. */
+/**
+ * What the tests share: a DarkGate called by rows of text, and the count of wrong answers. The Model
+ * gets the same calls, so that rows worked out by hand hold it to the document, too.
+ */
 final class Check {
     static final Map<String, Method> CALLS = calls();
+    private static final int MOST_CALLS = 512;
     private static int asked = 0;
     private static int wrong = 0;
 
-    DarkGate gate = new DarkGate();
+    private final String sentence;
+    private DarkGate gate = new DarkGate();
+    private Model model = new Model();
+    private int called = 0;
+
+    /** A new object, to be asked about what a sentence of the document says. */
+    Check(String sentence) {
+        this.sentence = sentence;
+    }
 
     private static Map<String, Method> calls() {
         Map<String, Method> found = new HashMap<>();
@@ -46,8 +58,32 @@ final class Check {
         }
     }
 
-    /** A row such as "comes(2) = 14". */
-    void due(String row) {
+    /** A new object in place of the one so far. */
+    Check fresh() {
+        gate = new DarkGate();
+        model = new Model();
+        called = 0;
+        return this;
+    }
+
+    /** A new object with a TOWN in place of the one so far. */
+    Check fresh(String town) {
+        fresh();
+        tape(town);
+        long lines = answer("town");
+        same("LINES of " + town, lines < 1 ? 1 : 0, 0);
+        return this;
+    }
+
+    /** Rows such as "comes(2) = 14". */
+    Check due(String... rows) {
+        for (String row : rows) {
+            dueRow(row);
+        }
+        return this;
+    }
+
+    private void dueRow(String row) {
         int open = row.indexOf('(');
         int close = row.indexOf(')');
         int equal = row.indexOf('=');
@@ -58,13 +94,19 @@ final class Check {
             numbers[i] = Long.parseLong(parts[i].trim());
         }
         long want = Long.parseLong(row.substring(equal + 1).trim());
-        same(row, call(gate, row.substring(0, open).trim(), numbers), want);
+        String name = row.substring(0, open).trim();
+        long got = call(gate, name, numbers);
+        called++;
+        same(sentence + ": " + row, got, want);
+        same(sentence + ": the Model's " + row, model.call(name, numbers), want);
+        same(sentence + ": calls of one object", Math.max(called, MOST_CALLS), MOST_CALLS);
     }
 
-    void due(String... rows) {
-        for (String row : rows) {
-            due(row);
-        }
+    private long answer(String name, long... numbers) {
+        long got = call(gate, name, numbers);
+        called++;
+        same(sentence + ": " + name + ", as the Model", got, model.call(name, numbers));
+        return got;
     }
 
     static void same(String what, long got, long want) {
@@ -76,18 +118,23 @@ final class Check {
     }
 
     /** Puts a text behind the TAPE. */
-    void tape(String text) {
-        tape(gate, text);
+    Check tape(String text) {
+        byte[] bytes = text.getBytes(StandardCharsets.ISO_8859_1);
+        long before = answer("count", 7);
+        for (int at = 0; at < bytes.length; at += 20) {
+            int[] n = fiveNumbers(bytes, at);
+            same("room for " + text, answer("feed", n[0], n[1], n[2], n[3], n[4]), before + at + 20);
+        }
+        answer("end", before + bytes.length);
+        return this;
     }
 
     static void tape(DarkGate gate, String text) {
         byte[] bytes = text.getBytes(StandardCharsets.ISO_8859_1);
-        int before = gate.count(7);
         for (int at = 0; at < bytes.length; at += 20) {
-            int[] numbers = fiveNumbers(bytes, at);
-            gate.feed(numbers[0], numbers[1], numbers[2], numbers[3], numbers[4]);
+            int[] n = fiveNumbers(bytes, at);
+            gate.feed(n[0], n[1], n[2], n[3], n[4]);
         }
-        gate.end(before + bytes.length);
     }
 
     static int[] fiveNumbers(byte[] bytes, int at) {
@@ -99,23 +146,23 @@ final class Check {
         return numbers;
     }
 
-    /** A new object with a TOWN. */
-    static Check with(String text) {
-        Check check = new Check();
-        check.tape(text);
-        int lines = check.gate.town();
-        if (lines < 1) {
-            same("town of " + text, lines, 1);
-        }
-        return check;
+    /** A new object to which a text is a TOWN of so many LINES. */
+    Check reads(String text, int lines) {
+        return fresh().tape(text).due("town() = " + lines, "fault(0) = 0", "fault(1) = -1", "count(6) = " + lines, "count(7) = 0");
+    }
+
+    /** A new object to which a text is none, by a FAULT in a place. */
+    Check refuses(String text, int fault, int place) {
+        return fresh().tape(text).due("town() = -4", "fault(0) = " + fault, "fault(1) = " + place, "count(0) = 0");
     }
 
     /** A row of numbers in a SLOT, 8 bytes each. */
-    void slot(int slot, long... numbers) {
-        same("row", gate.row(slot, 3, numbers.length), 0);
+    Check slot(int slot, long... numbers) {
+        due("row(" + slot + ", 3, " + numbers.length + ") = 0");
         for (int i = 0; i < numbers.length; i++) {
-            same("write", gate.write(slot, i, numbers[i]), 0);
+            due("write(" + slot + ", " + i + ", " + numbers[i] + ") = 0");
         }
+        return this;
     }
 
     static void close(String name) {

@@ -34,5 +34,19 @@ final class Streets {
             + "house at 3 wants 0 pays 100 loads 50;house at 4 wants 0 pays 100 loads 50;house at 5 wants 0 pays 100 loads 50;"
             + "stranger at 4 from 0;stranger at 6 from 5;";
 
+    /** The longest way: 99 minutes at the gate, then seven LANES of 60, from STREET 0 to 7. */
+    static final String LONG = "town streets 8;"
+            + "lane 0 to 1 takes 60;lane 1 to 2 takes 60;lane 2 to 3 takes 60;lane 3 to 4 takes 60;lane 4 to 5 takes 60;"
+            + "lane 5 to 6 takes 60;lane 6 to 7 takes 60;gate at 0 holds 99;";
+
+    /**
+     * Dark comes to 2 in 2 minutes; in 3 without LANE 0 or LANE 1, in 4 without both, in 5 without
+     * LANES 0 and 3 (bits 9), or without LANES 1 and 2 (bits 6).
+     */
+    static final String PAIRS = "town streets 3;"
+            + "lane 0 to 1 takes 1;lane 1 to 2 takes 1;lane 1 to 2 takes 2;lane 0 to 1 takes 2;lane 0 to 1 takes 4;lane 1 to 2 takes 4;"
+            + "gate at 0 holds 0;house at 2 wants 5 pays 10 loads 0;";
+
+    /** Two STREETS, and nothing else. */
     static final String BARE = "town streets 2;";
 }
