@@ -112,7 +112,9 @@ final class SaidOfActs {
                 "house(0, 1) = 30", "back(0) = 0", "count(5) = 0", "gate(0, 1) = 20", "lane(0, 4) = 0", "back(1) = 0", "count(5) = 1", "lane(0, 4) = 1");
         // A later one is kept in place of it; what is done behind it does not change it.
         x.due("image(0) = 0", "undo() = 0", "back(0) = 0", "count(5) = 1", "undo() = 0", "lane(0, 4) = 0", "back(0) = 0", "count(5) = 1", "lane(0, 4) = 1", "tell(0, 1, 9) = -5");
-        x.tape(Streets.FULL).due("town() = 23", "back(2) = 0", "count(0) = 5", "count(1) = 5", "count(2) = 2", "count(3) = 4", "count(4) = 0", "count(6) = 12", "comes(3) = 35");
+        x.tape(Streets.FULL).due("town() = 23", "back(2) = 0", "count(0) = 5", "count(1) = 5", "count(2) = 2", "count(3) = 4", "count(4) = 0", "count(6) = 12", "comes(3) = 35", "lane(1, 3) = 5",
+                "lane(1, 0) = 1", "lane(1, 1) = 2", "lane(1, 2) = 10", "lane(4, 4) = 1", "gate(1, 0) = 2", "gate(1, 1) = 45", "house(0, 0) = 1", "house(0, 1) = 30", "house(0, 2) = 50", "house(0, 3) = 3");
+        x.fresh(Streets.ROW).due("image(1) = 0").tape(Streets.FULL).due("town() = 23", "owns(0) = 135", "back(1) = 0", "owns(0) = 3", "owns(1) = 12", "bar(2, 1) = 0", "owns(2) = 4", "count(4) = 2", "count(6) = 7");
         x = Said.promise(58, "-2: no such k", Streets.FIVE);
         x.due("image(3) = -2", "image(-1) = -2", "image(2147483647) = -2", "image(-2147483648) = -2", "back(0) = -6", "back(1) = -6", "back(2) = -6").fresh().due("image(3) = -2", "image(-1) = -2");
     }
@@ -122,8 +124,11 @@ final class SaidOfActs {
         x.due("tell(1, 2, 77) = 20", "bar(1, 1) = 0", "holds(0, 3) = 20", "image(0) = 0", "bar(0, 1) = 0", "holds(0, 50) = 3", "anew() = 4", "tell(1, 2, 5) = 77", "image(1) = 0", "back(0) = 0", "count(5) = 2",
                 "lane(1, 4) = 1", "lane(0, 4) = 0", "gate(0, 1) = 3", "house(1, 2) = 77", "undo() = 1", "gate(0, 1) = 20", "undo() = 0", "lane(1, 4) = 0", "undo() = -5", "back(0) = 0", "gate(0, 1) = 3",
                 "back(0) = 0", "count(5) = 2", "back(1) = 0", "count(5) = 0", "house(1, 2) = 5");
+        // What was done meanwhile is not what is taken back.
+        x.fresh(Streets.FIVE).due("bar(1, 1) = 0", "holds(0, 3) = 20", "bar(4, 0) = 1", "image(2) = 0", "anew() = 3", "holds(1, 1) = 45", "bar(2, 1) = 0", "holds(1, 2) = 1", "bar(0, 1) = 0", "back(2) = 0",
+                "count(5) = 3", "lane(2, 4) = 0", "gate(1, 1) = 45", "undo() = 2", "lane(4, 4) = 1", "gate(0, 1) = 3", "undo() = 1", "gate(0, 1) = 20", "lane(1, 4) = 1", "undo() = 0", "lane(1, 4) = 0", "gate(1, 1) = 45");
         // The TAPE, the FAULT and the SLOTS are no part of it.
-        x.due("row(1, 0, 3) = 0").tape("town streets 9;").due("town() = -4", "back(0) = 0", "fault(0) = 2", "fault(1) = 13", "count(7) = 15", "count(8) = 1");
+        x.due("row(1, 0, 3) = 0").tape("town streets 9;").due("town() = -4", "back(2) = 0", "fault(0) = 2", "fault(1) = 13", "count(7) = 15", "count(8) = 1");
         x = Said.promise(59, "-2: no such k", Streets.FIVE);
         x.due("back(3) = -2", "back(-1) = -2", "back(2147483647) = -2", "back(-2147483648) = -2", "image(0) = 0", "back(3) = -2").fresh().due("back(3) = -2", "back(-1) = -2");
         x = Said.promise(59, "-6: it has nothing", Streets.FIVE);

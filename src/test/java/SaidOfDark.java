@@ -94,6 +94,7 @@ final class SaidOfDark {
         x = Said.promise(11, "a GATE in it holds just so long (it comes in there)", Streets.FIVE);
         x.due("by(0) = -1", "by(2) = 1", "holds(1, 41) = 45", "by(2) = 1", "holds(1, 40) = 41", "by(2) = -1", "holds(1, 39) = 40", "by(2) = -1", "by(3) = 3");
         x.fresh("town streets 2;lane 0 to 1 takes 5;gate at 1 holds 9;gate at 1 holds 5;gate at 0 holds 0;").due("by(1) = -1", "from(1) = 1");
+        x.fresh("town streets 2;lane 0 to 1 takes 5;gate at 1 holds 5;gate at 0 holds 0;").due("by(1) = -1", "by(0) = -1", "holds(0, 6) = 5", "by(1) = 0");
         x = Said.promise(11, "-2 likewise", Streets.FIVE);
         x.due("by(5) = -2", "by(-1) = -2", "by(-2147483648) = -2").fresh().due("by(0) = -2");
     }
@@ -143,9 +144,9 @@ final class SaidOfDark {
 
     private static void harm() {
         Check x = Said.promise(16, "The minutes that all STREETS would have it later, together, if a LANE were barred", Streets.FIVE);
-        x.due("harm(0) = 35", "harm(1) = 10", "harm(2) = 0", "bar(4, 0) = 1", "harm(4) = 38", "lane(4, 4) = 0", "count(5) = 1").fresh(Streets.FULL).due("harm(8) = 77");
+        x.due("harm(0) = 35", "harm(1) = 10", "harm(2) = 0", "bar(4, 0) = 1", "harm(4) = 38", "lane(4, 4) = 0", "count(5) = 1").fresh(Streets.BARE + "lane 0 to 1 takes 5;lane 0 to 1 takes 9;gate at 1 holds 7;").due("harm(0) = 4", "harm(1) = 0").fresh(Streets.FULL).due("harm(8) = 77");
         x = Said.promise(16, "(STREETS that would never count 1,000 less their minute)", Streets.FIVE);
-        x.due("harm(3) = 955").fresh(Streets.ROW).due("harm(2) = 982", "harm(1) = 1969", "harm(0) = 2961");
+        x.due("harm(3) = 955").fresh(Streets.ROW).due("harm(2) = 982", "harm(1) = 1969", "harm(0) = 2961").fresh(Streets.BARE + "lane 0 to 1 takes 5;gate at 1 holds 7;").due("harm(0) = 988");
         // To 2 and 3 it does not come in any case: nothing is later there.
         x.fresh("town streets 4;lane 0 to 1 takes 5;lane 2 to 3 takes 5;gate at 0 holds 3;").due("harm(0) = 992", "harm(1) = 0");
         x.fresh("town streets 2;lane 0 to 1 takes 5;").due("harm(0) = 0").fresh(Streets.LONG).due("harm(6) = 481");

@@ -62,7 +62,7 @@ final class SaidOfGlad {
         Check x = Said.promise(25, "The HOUSE of most GLAD", Streets.FIVE);
         x.due("gladdest() = 0", "tell(1, 1, 40) = 50", "tell(1, 2, 51) = 20", "gladdest() = 1", "tell(3, 2, 999) = 60", "gladdest() = 1");
         x = Said.promise(25, "the first of several", three);
-        x.due("gladdest() = 1", "tell(0, 2, 7) = 3", "gladdest() = 0", "tell(2, 2, 8) = 7", "gladdest() = 2");
+        x.due("gladdest() = 1", "tell(0, 2, 7) = 3", "gladdest() = 0", "tell(2, 2, 8) = 7", "gladdest() = 2").fresh(Streets.FULL).due("gladdest() = 0", "tell(5, 2, 112) = 100", "gladdest() = 5");
         x = Said.promise(25, "if it is above 0", three);
         x.due("tell(1, 2, 0) = 7", "tell(2, 2, 0) = 7", "gladdest() = 0", "tell(0, 2, 1) = 3", "gladdest() = 0", "tell(0, 2, 0) = 1", "gladdest() = -1");
         x = Said.promise(25, "NONE: none", Streets.BARE);
@@ -158,6 +158,7 @@ final class SaidOfGlad {
         Check x = Said.promise(32, "The hold (0 .. 99) of a GATE by which GLAD of all is greatest", Streets.FIVE);
         x.due("asks(0) = 20", "gate(0, 1) = 20", "holds(1, 99) = 45", "asks(0) = 20", "holds(0, 99) = 20", "asks(0) = 20").fresh(one).due("asks(0) = 99",
                 "tell(0, 1, 50) = 99", "asks(0) = 50", "tell(0, 1, 0) = 50", "asks(0) = 0", "tell(0, 1, 103) = 0", "asks(0) = 99", "gate(0, 1) = 7");
+        x.fresh(Streets.FULL).due("asks(0) = 0", "asks(3) = 0", "brings(3) = 568", "tell(3, 1, 7) = 0", "asks(3) = 0", "tell(2, 2, 0) = 100", "tell(4, 2, 0) = 100", "asks(3) = 7");
         x = Said.promise(32, "the least of several", Streets.FIVE);
         x.due("asks(1) = 40").fresh(Streets.BARE + "gate at 0 holds 7;").due("asks(0) = 0").fresh(one).due("tell(0, 1, 104) = 99", "asks(0) = 0");
         x.fresh(Streets.BARE + "gate at 0 holds 7;house at 0 wants 10 pays 5 loads 0;house at 0 wants 14 pays 5 loads 0;").due("asks(0) = 10", "brings(0) = 6");

@@ -86,6 +86,8 @@ final class SaidOfHeld {
         // At worst STREET 0 leaves 101, 1 leaves 81, 2 and 3 leave 75, 4 leaves 200.
         x.slot(0).due("ask(0) = 2", "leaves(0) = 75").slot(0, 2, 45, 1, 55).due("ask(0) = 0", "leaves(0) = 35").slot(0, 2, 45).due("ask(0) = 0", "leaves(0) = 35");
         x.fresh(ONE + "lane 0 to 1 takes 5;").slot(0).due("ask(0) = 0", "leaves(0) = 1").fresh("town streets 2;gate at 1 holds 7;").slot(0).due("ask(0) = 1", "leaves(0) = 1");
+        // In FULL it comes to 2 in 20 if GATE 0 holds 0, GATE 1 10 or more, GATE 2 20 or more, GATE 3 10 or more.
+        x.fresh(Streets.FULL).slot(0).due("fits(0) = 400", "ask(0) = 2", "leaves(0) = 261");
         x = Said.promise(37, "if fewer than now", Streets.FIVE);
         x.slot(0, 2, 40).due("fits(0) = 61", "ask(0) = -1", "leaves(0) = 61").slot(0, 2, 44).due("fits(0) = 1", "ask(0) = -1", "leaves(0) = 1");
         x.slot(0, 2, 39).due("fits(0) = 2", "ask(0) = 0", "leaves(0) = 1");

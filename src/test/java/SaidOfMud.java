@@ -55,6 +55,7 @@ final class SaidOfMud {
                 "chance(2, 35, 1) = 1", "chance(1, 10, 0) = 7", "chance(1, 10, 1) = 10");
         x.fresh(Streets.BARE + "lane 0 to 1 takes 5 muddy 3;".repeat(10) + "gate at 0 holds 0;").due("chance(1, 5, 0) = 9999940951", "chance(1, 5, 1) = 10000000000", "chance(1, 15, 1) = 1");
         x.fresh(Streets.BARE + "lane 0 to 1 takes 5 muddy 5;".repeat(10) + "gate at 0 holds 0;").due("chance(1, 5, 0) = 1023", "chance(1, 5, 1) = 1024");
+        x.fresh(Streets.BARE + "lane 0 to 1 takes 5 muddy 1;".repeat(10) + "gate at 0 holds 0;").due("chance(1, 5, 0) = 9999999999", "chance(1, 5, 1) = 10000000000");
     }
 
     private static void chance() {
@@ -75,6 +76,7 @@ final class SaidOfMud {
         x.due("sure(2, 0) = 0", "sure(2, 1) = 20", "sure(2, 42) = 20", "sure(2, 43) = 30", "sure(2, 88) = 30", "sure(2, 89) = 35", "sure(2, 100) = 35", "sure(0, 100) = 0", "sure(1, 70) = 10",
                 "sure(1, 71) = 20").fresh(Streets.LONG.replace("takes 60", "takes 60 muddy 3")).due("sure(7, 0) = 0", "sure(7, 8) = 519", "sure(7, 9) = 529", "sure(7, 99) = 569", "sure(7, 100) = 589");
         x.fresh(Streets.BARE + "lane 0 to 1 takes 5 muddy 3;".repeat(10) + "gate at 0 holds 0;").due("sure(1, 99) = 5", "sure(1, 100) = 15").fresh(Streets.FIVE).due("sure(4, 0) = 0");
+        x.fresh(Streets.BARE + "lane 0 to 1 takes 5 muddy 1;".repeat(10) + "gate at 0 holds 0;").due("sure(1, 99) = 5", "sure(1, 100) = 15");
         x = Said.promise(49, "NONE: none", Streets.FIVE);
         x.due("sure(4, 1) = -1", "sure(4, 100) = -1", "sure(3, 100) = 50").fresh(Streets.BARE).due("sure(0, 1) = -1", "sure(0, 0) = 0");
         x = Said.promise(49, "-2: there are none such", WET);

@@ -29,7 +29,7 @@ final class SaidOfPlans {
         x.fresh(WORM).due("place(1) = 2", "place(2) = 1", "place(3) = 1", "place(4) = 1").fresh(Streets.BARE).due("place(2) = 0", "place(3) = 0", "place(4) = 0");
         x.fresh(Streets.LONG).due("place(1) = 240", "place(2) = 120", "place(3) = 60", "place(4) = 60");
         x = Said.promise(39, "NONE: by none", Streets.FIVE);
-        x.due("place(1) = -1", "bar(3, 1) = 0", "place(2) = -1").fresh(Streets.BARE).due("place(1) = -1").fresh("town streets 5;").due("place(4) = -1").fresh("town streets 4;");
+        x.due("place(2) = 15", "place(1) = -1", "bar(3, 1) = 0", "place(2) = -1").fresh(Streets.BARE).due("place(1) = -1").fresh("town streets 5;").due("place(4) = -1").fresh("town streets 4;");
         x.due("place(3) = -1", "place(4) = 0");
         x = Said.promise(39, "-2: there is no such k, no TOWN", Streets.FIVE);
         x.due("place(0) = -2", "place(5) = -2", "place(-1) = -2", "place(2147483647) = -2", "place(-2147483648) = -2").fresh().due("place(1) = -2", "place(0) = -2");
@@ -45,7 +45,7 @@ final class SaidOfPlans {
         // So many are placed even if fewer would do as well.
         x.fresh(Streets.BARE + "lane 0 to 1 takes 1;").due("places(1) = 1", "places(2) = 3").fresh(WORM).due("place(3) = 1", "places(3) = 7");
         x = Said.promise(40, "NONE, -2 likewise", Streets.FIVE);
-        x.due("places(1) = -1", "bar(3, 1) = 0", "places(2) = -1", "places(0) = -2", "places(5) = -2", "places(-1) = -2").fresh().due("places(1) = -2", "places(5) = -2");
+        x.due("places(2) = 18", "places(1) = -1", "places(2) = 18", "bar(3, 1) = 0", "places(2) = -1", "places(0) = -2", "places(5) = -2", "places(-1) = -2").fresh().due("places(1) = -2", "places(5) = -2");
     }
 
     private static void soon() {
@@ -55,7 +55,7 @@ final class SaidOfPlans {
         x.fresh("town streets 5;lane 0 to 1 takes 1;lane 0 to 2 takes 1;lane 0 to 3 takes 6;lane 3 to 4 takes 6;").due("place(1) = 7", "places(1) = 8", "soon(1) = 20");
         x.fresh(Streets.LONG).due("soon(1) = 960");
         x = Said.promise(41, "NONE, -2 likewise", Streets.FIVE);
-        x.due("soon(1) = -1", "bar(3, 1) = 0", "soon(2) = -1", "soon(0) = -2", "soon(5) = -2", "soon(-1) = -2").fresh().due("soon(1) = -2", "soon(5) = -2");
+        x.due("soon(2) = 35", "soon(1) = -1", "bar(3, 1) = 0", "soon(2) = -1", "soon(0) = -2", "soon(5) = -2", "soon(-1) = -2").fresh().due("soon(1) = -2", "soon(5) = -2");
     }
 
     private static void carts() {
@@ -142,6 +142,8 @@ final class SaidOfPlans {
         x = Said.promise(46, "by which neither the clerk nor the town would do better by another one alone", Streets.FIVE);
         // GATE 0 held: 40, 35, 40, 40 by the LANE; GATE 1: 40, 65, 60, 60.
         x.due("rests() = 3").fresh(COINS).due("rests() = 0");
+        // GATE 0 held is worst for the town in any case; it does best by one of the LANES 1, 2, 5, 6, 7, 9.
+        x.fresh(Streets.FULL).due("rests() = 6", "clerk() = 0");
         Said.promise(46, "-2: there is no TOWN").due("rests() = -2");
     }
 
