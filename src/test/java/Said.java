@@ -62,7 +62,8 @@ final class Said {
         while (promises.find()) {
             keep("Promise " + promises.group(1), promises.group(2));
         }
-        String terms = document.substring(document.indexOf("## Terms"), document.indexOf("## Promise 1:")).replace("```text", "").replace("```", "");
+        String terms = document.substring(document.indexOf("## Terms"), document.indexOf("## Promise 1:"));
+        terms = terms.replace("```text", "").replace("```", "");
         Matcher each = Pattern.compile("(?s)\n([IV]+)\\. (.*?)(?=\n[IV]+\\. |$)").matcher(terms);
         while (each.find()) {
             keep("Term " + each.group(1), each.group(2));
