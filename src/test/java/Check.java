@@ -109,6 +109,11 @@ final class Check {
         return got;
     }
 
+    /** How many calls the object has had. */
+    int called() {
+        return called;
+    }
+
     static void same(String what, long got, long want) {
         asked++;
         if (got != want) {

@@ -1,5 +1,4 @@
 import java.io.IOException;
-import java.lang.reflect.Constructor;
 import java.lang.reflect.Field;
 import java.lang.reflect.Method;
 import java.lang.reflect.Modifier;
@@ -27,7 +26,7 @@ public final class LanguageTest {
         }
         imports(code);
         methodLengths(code);
-        face();
+        outside();
         for (Class<?> inside : DarkGate.class.getDeclaredClasses()) {
             inside(inside);
         }
@@ -61,21 +60,11 @@ public final class LanguageTest {
         }
     }
 
-    private static void face() {
-        Check.same("DarkGate is public and final", DarkGate.class.getModifiers() & (Modifier.PUBLIC | Modifier.FINAL),
-                Modifier.PUBLIC | Modifier.FINAL);
-        Check.same("public calls", Check.CALLS.size(), 61);
+    /** What FaceTest does not ask of the class itself. */
+    private static void outside() {
         for (Method method : DarkGate.class.getDeclaredMethods()) {
             boolean open = Modifier.isPublic(method.getModifiers());
-            Check.same(method + " is public or private", open || Modifier.isPrivate(method.getModifiers()) ? 0 : 1, 0);
             Check.same(method + " bears a public name", !open && Check.CALLS.containsKey(method.getName()) ? 1 : 0, 0);
-        }
-        for (Field field : DarkGate.class.getDeclaredFields()) {
-            boolean constant = field.getName().equals("NONE");
-            Check.same(field + " is private", constant || Modifier.isPrivate(field.getModifiers()) ? 0 : 1, 0);
-        }
-        for (Constructor<?> constructor : DarkGate.class.getDeclaredConstructors()) {
-            Check.same(constructor + " is public", Modifier.isPublic(constructor.getModifiers()) ? 0 : 1, 0);
         }
         fields(DarkGate.class);
     }
